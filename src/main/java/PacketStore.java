@@ -72,8 +72,9 @@ public final class PacketStore {
 
     /** Deletes the oldest packets up to the first whose time is after the given one: how many. */
     public int delete(int time) {
+        int there = ring.packets();
         int gone = 0;
-        while (ring.packets() > 0 && ring.timeOf(0) <= time) {
+        while (gone < there && ring.timeOf(0) <= time) {
             dropOldest();
             gone++;
         }
@@ -182,8 +183,9 @@ public final class PacketStore {
     }
 
     private int makeRoom(int size) {
+        int there = ring.packets();
         int gone = 0;
-        while (ring.packets() > 0 && ring.used() + size > ring.room()) {
+        while (gone < there && ring.used() + size > ring.room()) {
             dropOldest();
             gone++;
         }

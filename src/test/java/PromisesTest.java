@@ -45,7 +45,8 @@ public final class PromisesTest {
 
     private static void newObjectHasTheNearestRoom() {
         int[][] roomAndDue = {
-            {MIN, 64}, {-64, 64}, {-1, 64}, {0, 64}, {63, 64}, {64, 64}, {65, 65}, {1000, 1000},
+            {MIN, 64}, {MIN + 1, 64}, {-16384, 64}, {-1000, 64}, {-1, 64}, {0, 64}, {63, 64},
+            {64, 64}, {65, 65}, {1000, 1000},
             {16383, 16383}, {16384, 16384}, {16385, 16384}, {MAX, 16384}};
         for (int[] pair : roomAndDue) {
             due("new(" + pair[0] + ").count(7)", new PacketStore(pair[0]).count(7), pair[1]);
