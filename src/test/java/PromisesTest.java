@@ -1,4 +1,7 @@
-/** Each promise of the document by hand: ordinary inputs, its edges, and wrong inputs. */
+/**
+ * Each promise of the document by hand, in use; BoundaryTest has the cases that its sentences name as
+ * too small, too large, empty, full or refused.
+ */
 public final class PromisesTest {
     private static final int NONE = -1;
     private static final int FULL = -2;
@@ -11,24 +14,18 @@ public final class PromisesTest {
     }
 
     public static void main(String[] args) {
-        newObjectHasTheNearestRoom();
         newObjectIsEmpty();
         objectsShareNothing();
         putTakesTheLowestEightBits();
-        putRefusesThe513th();
         keepAnswersHowManyAreGone();
-        keepWithoutBytesChangesNothing();
-        keepOfTooManyBytesOnlyEmptiesTheText();
         keepWrapsRoundTheRing();
         keepFillsTheLargestRoom();
         deleteEndsAtTheFirstLaterTime();
-        deleteTakesAnyTime();
         beginRefusesASecondRetrieval();
         beginStartsAtTheOldestAgain();
         stopEndsTheRetrieval();
         nextBringsOutTheSpanInOrder();
         nextComparesTimesAsInts();
-        nextWaitsForEnoughRoom();
         nextMissesWhatIsGone();
         nextSeesWhatComesLater();
         nextEndsTheRetrieval();
@@ -42,22 +39,6 @@ public final class PromisesTest {
     }
 
     // Promise 1
-
-    private static void newObjectHasTheNearestRoom() {
-        int[][] roomAndDue = {
-            {MIN, 64}, {MIN + 1, 64}, {-16384, 64}, {-1000, 64}, {-1, 64}, {0, 64}, {63, 64},
-            {64, 64}, {65, 65}, {1000, 1000},
-            {16383, 16383}, {16384, 16384}, {16385, 16384}, {MAX, 16384}};
-        for (int[] pair : roomAndDue) {
-            due("new(" + pair[0] + ").count(7)", new PacketStore(pair[0]).count(7), pair[1]);
-        }
-        PacketStore least = new PacketStore(0);
-        due("64 bytes in the least room", keepBytes(least, 64, 0, 1), 0);
-        due("65 bytes in the least room", keepBytes(least, 65, 0, 1), FULL);
-        PacketStore odd = new PacketStore(65);
-        due("65 bytes in a room of 65", keepBytes(odd, 65, 0, 1), 0);
-        due("66 bytes in a room of 65", keepBytes(odd, 66, 0, 1), FULL);
-    }
 
     private static void newObjectIsEmpty() {
         PacketStore x = new PacketStore(64);
@@ -106,25 +87,6 @@ public final class PromisesTest {
         due("put after keep", x.put(1), 1);
     }
 
-    // Beyond the 512 calls of the document, but its words name the edge.
-    private static void putRefusesThe513th() {
-        PacketStore x = new PacketStore(1024);
-        for (int n = 1; n <= 512; n++) {
-            due("put number " + n, x.put(n), n);
-        }
-        due("put number 513", x.put(9), NONE);
-        due("put number 514", x.put(9), NONE);
-        due("keep of 512", x.keep(7), 0);
-        due("size of 512", x.about(0, 1), 512);
-        due("last byte of 512", x.byteAt(0, 511), 0);
-        due("first byte of 512", x.byteAt(0, 0), 1);
-        x.begin(7, 7);
-        due("next of 512, 511 at most", x.next(511), FULL);
-        due("next of 512", x.next(512), 512);
-        due("out(510) of 512", x.out(510), 255);
-        due("out(512) of 512", x.out(512), NONE);
-    }
-
     // Promise 3
 
     private static void keepAnswersHowManyAreGone() {
@@ -142,33 +104,6 @@ public final class PromisesTest {
         due("packets then", x.count(0), 1);
         due("driven out in all", x.count(3), 6);
         due("come in all", x.count(2), 7);
-    }
-
-    private static void keepWithoutBytesChangesNothing() {
-        PacketStore x = new PacketStore(64);
-        keepBytes(x, 64, 0, 1);
-        due("keep of nothing", x.keep(2), NONE);
-        due("keep of nothing again", x.keep(MIN), NONE);
-        due("come", x.count(2), 1);
-        due("driven out", x.count(3), 0);
-        packetsAre(x, "after keep of nothing", 1, 0, 64);
-    }
-
-    private static void keepOfTooManyBytesOnlyEmptiesTheText() {
-        PacketStore x = new PacketStore(64);
-        keepBytes(x, 2, 5, 1);
-        keepBytes(x, 3, 10, 2);
-        x.begin(1, 2);
-        x.next(9);
-        due("keep of 65 in 64", keepBytes(x, 65, 0, 3), FULL);
-        packetsAre(x, "after FULL", 1, 5, 2, 2, 10, 3);
-        due("come after FULL", x.count(2), 2);
-        due("driven out after FULL", x.count(3), 0);
-        due("under way after FULL", x.count(5), 1);
-        due("out after FULL", x.out(1), 6);
-        due("next after FULL", x.next(9), 3);
-        due("keep after FULL: the text is empty", x.keep(4), NONE);
-        due("put after FULL: the text is empty", x.put(4), 1);
     }
 
     private static void keepWrapsRoundTheRing() {
@@ -221,19 +156,6 @@ public final class PromisesTest {
         due("packets left", x.count(0), 0);
         due("bytes left at last", x.count(1), 0);
         due("room is there again", keepBytes(x, 64, 0, 1), 0);
-    }
-
-    private static void deleteTakesAnyTime() {
-        PacketStore x = new PacketStore(64);
-        keepBytes(x, 1, 0, MIN);
-        keepBytes(x, 1, 0, -1);
-        keepBytes(x, 1, 0, 0);
-        keepBytes(x, 1, 0, MAX);
-        due("delete(MIN)", x.delete(MIN), 1);
-        due("delete(-2)", x.delete(-2), 0);
-        due("delete(-1)", x.delete(-1), 1);
-        due("delete(MAX - 1)", x.delete(MAX - 1), 1);
-        due("delete(MAX)", x.delete(MAX), 1);
     }
 
     // Promise 5
@@ -326,25 +248,6 @@ public final class PromisesTest {
         due("then none", x.next(9), NONE);
         x.begin(MAX, MIN);
         due("from above to", x.next(9), NONE);
-    }
-
-    private static void nextWaitsForEnoughRoom() {
-        PacketStore x = new PacketStore(64);
-        keepBytes(x, 2, 10, 1);
-        keepBytes(x, 9, 20, 99);
-        keepBytes(x, 5, 30, 2);
-        x.begin(1, 2);
-        due("next(0)", x.next(0), FULL);
-        due("next(-1)", x.next(-1), FULL);
-        due("next(MIN)", x.next(MIN), FULL);
-        due("nothing came out", x.count(6), 0);
-        due("next(2), just enough", x.next(2), 2);
-        due("next(4), one too few", x.next(4), FULL);
-        due("what came out stays", x.count(6), 2);
-        due("its byte stays", x.out(0), 10);
-        due("still under way", x.count(5), 1);
-        due("next(MAX)", x.next(MAX), 5);
-        due("next(0) at the end", x.next(0), NONE);
     }
 
     private static void nextMissesWhatIsGone() {
@@ -517,29 +420,12 @@ public final class PromisesTest {
         due("the text is no packet", x.byteAt(2, 0), NONE);
     }
 
-    /** Puts so many bytes, first, first + 1 and so on, and keeps them as a packet of the time. */
     private static int keepBytes(PacketStore x, int size, int first, int time) {
-        for (int j = 0; j < size; j++) {
-            x.put(first + j);
-        }
-        return x.keep(time);
+        return Packets.keepBytes(x, size, first, time);
     }
 
-    /** All packets, each told by its time, its first byte and its size (bytes as of keepBytes). */
     private static void packetsAre(PacketStore x, String when, int... told) {
-        due(when + ": packets", x.count(0), told.length / 3);
-        int bytes = 0;
-        for (int k = 0; k < told.length / 3; k++) {
-            int size = told[3 * k + 2];
-            due(when + ": time of " + k, x.about(k, 0), told[3 * k]);
-            due(when + ": size of " + k, x.about(k, 1), size);
-            for (int j = 0; j < size; j++) {
-                due(when + ": byte " + j + " of " + k, x.byteAt(k, j), told[3 * k + 1] + j & 0xff);
-            }
-            due(when + ": byte behind " + k, x.byteAt(k, size), NONE);
-            bytes += size;
-        }
-        due(when + ": bytes", x.count(1), bytes);
+        checks.packetsAre(x, when, told);
     }
 
     private static void due(String call, Object got, Object want) {
